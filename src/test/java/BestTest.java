@@ -30,6 +30,9 @@ public final class BestTest {
         Due.is("19 the other one first", x.better(2, 1), 1);
         Due.is("19 not more than as it is", x.better(1, 1), Due.NONE);
         Due.is("19 none of it anyway", x.better(7, 60), Due.NONE);
+        x = withCooks(1, 1);
+        x.set(0, 2, 200);
+        Due.is("19 less than now, but more than as it is", x.better(0, 1), 1);
         Due.is("19 no cooks", new StockPot().better(0, 60), Due.NONE);
         Due.is("19 one cook", withCooks(1).better(1, 60), Due.NONE);
         x = withCooks(1, 2, 2);

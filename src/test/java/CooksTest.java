@@ -100,6 +100,10 @@ public final class CooksTest {
             Due.is("8 small pot takes, kind " + kind, x.of(kind, 4), takes[kind]);
             Due.is("8 small pot puts, kind " + kind, x.of(kind, 5), puts[kind]);
         }
+        x.set(5, 3, 0);
+        x.pour(7, 0);
+        Due.is("8 blitz puts 0 at least", x.of(5, 5), 0);
+        x.pour(7, 60);
         Due.is("8 blitz of a small pot", x.of(5, 6), 11);
         x.pour(7, 499);
         Due.is("8 blitz of 499", x.of(5, 6), 11);

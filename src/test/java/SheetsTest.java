@@ -185,6 +185,10 @@ public final class SheetsTest {
         Due.is("33 the part stays", x.of(0, 1), 9);
         x.write(0, 7, 524);
         Due.is("33 the last one is off", x.read(0, 1, 0), 0);
+        x.turn(0, 0);
+        x.sheet(0, 64, 40);
+        x.book(0, 9);
+        Due.is("33 forty numbers", x.read(0, 9, 0), 1);
         x.sheet(0, 64, 1);
         x.write(0, 0, 1000);
         Due.is("33 on 0 years all are right", x.read(0, 0, 0), 72);

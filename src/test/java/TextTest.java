@@ -10,6 +10,8 @@ public final class TextTest {
         faultOfANinth();
         faultOfTooMuch();
         faultChangesNothing();
+        bytesOfBefore();
+        fullTape();
         Due.end("TextTest");
     }
 
@@ -79,6 +81,8 @@ public final class TextTest {
         Due.is("27 without blanks", Due.college(x, "frugal;cook puts2weight3merit4;part0 9999"), 3);
         Due.is("27 without blanks", x.of(6, 3), 4);
         Due.is("27 without blanks", x.grains(0), 9999);
+        Due.is("27 the last part", Due.college(x, "part 11 8"), 1);
+        Due.is("27 the last part", x.grains(11), 8);
     }
 
     private static void collegeAdds() {
@@ -118,6 +122,8 @@ public final class TextTest {
         fault("cooks", 0);
         fault("coo", 0);
         fault("cookputs 3", 0);
+        fault("xook", 0);
+        fault("coox", 0);
         fault("Cook", 0);
         fault("cook Puts 3", 5);
         fault("cook\tputs 3", 4);
@@ -189,5 +195,36 @@ public final class TextTest {
         Due.is("27 the tape is empty", x.count(1), 0);
         Due.is("27 a new cook is as at first", x.cook(0), 1);
         Due.is("27 a new cook is as at first", x.of(1, 1), 1);
+    }
+
+    /** What stood on the tape before it was emptied is no part of the next text. */
+    private static void bytesOfBefore() {
+        String[] before = {"          ", "aaaaaaaaaa", "9999999999", ";;;;;;;;;;"};
+        for (String text : before) {
+            StockPot x = new StockPot();
+            Due.lay(x, text);
+            x.wipe();
+            Due.is("27 ends too early behind '" + text + "'", Due.college(x, "cook;"), -1 - 5);
+            Due.lay(x, text);
+            x.wipe();
+            Due.is("27 a word behind '" + text + "'", Due.college(x, "cook"), 1);
+            Due.lay(x, text);
+            x.wipe();
+            Due.is("27 a number behind '" + text + "'", Due.college(x, "part 1 2"), 1);
+            Due.is("27 a number behind '" + text + "'", x.grains(1), 2);
+        }
+    }
+
+    private static void fullTape() {
+        String[] last = {"cook", "cook merit 5", "part 1 2", "cook ", "part 1 2;", "cook x", "part"};
+        int[] wanted = {1, 1, 1, 1, -1 - 120, -1 - 119, -1 - 120};
+        for (int i = 0; i < last.length; i++) {
+            String text = " ".repeat(120 - last[i].length()) + last[i];
+            Due.is("27 120 bytes, at last '" + last[i] + "'", Due.college(new StockPot(), text), wanted[i]);
+        }
+        Due.is("27 120 letters", Due.college(new StockPot(), "a".repeat(120)), -1);
+        Due.is("27 120 blanks", Due.college(new StockPot(), " ".repeat(120)), -1 - 120);
+        Due.is("27 zeros", Due.college(new StockPot(), "part " + "0".repeat(113) + "7 5"), -1 - 120);
+        Due.is("27 zeros", Due.college(new StockPot(), "part " + "0".repeat(112) + "7 5"), 1);
     }
 }

@@ -110,6 +110,10 @@ public final class YearsTest {
         }
         x.years(4);
         Due.is("14 whose turn", x.now(2), 1);
+        x.years(4);
+        Due.is("14 whose turn", x.now(2), 2);
+        Due.is("14 most of part 1", Due.potOf(0, 3, 2).now(5), 1);
+        Due.is("14 most of part 11", Due.potOf(1, 1, 1, 1, 1, 1, 1, 1, 1, 1, 1, 2).now(5), 11);
         Due.is("14 of all parts nothing", Due.potOf(0).now(5), 0);
         Due.is("14 no parts", Due.potOf(0).now(3), 0);
         Due.is("14 just 500", Due.potOf(500, 500).now(4), 0);
