@@ -112,6 +112,8 @@ public final class YearsTest {
         Due.is("14 whose turn", x.now(2), 1);
         x.years(4);
         Due.is("14 whose turn", x.now(2), 2);
+        x.years(2);
+        Due.is("14 whose turn in year 10", x.now(2), 1);
         Due.is("14 most of part 1", Due.potOf(0, 3, 2).now(5), 1);
         Due.is("14 most of part 11", Due.potOf(1, 1, 1, 1, 1, 1, 1, 1, 1, 1, 1, 2).now(5), 11);
         Due.is("14 of all parts nothing", Due.potOf(0).now(5), 0);
