@@ -5,8 +5,9 @@ import java.util.Random;
 
 /** Long runs of calls, drawn by a fixed seed, answered by StockPot and by PlainPot alike. */
 public final class ModelTest {
-    private static final int RUNS = 40;
-    private static final int CALLS = 512;
+    private static final int RUNS = 60;
+    // Of 512 calls, so that a last text and the last look at the pot stay within them.
+    private static final int CALLS = 512 - 122 - 12;
     private static final int[] EDGES = {
         -2, -1, 0, 1, 2, 3, 4, 5, 6, 7, 8, 9, 10, 11, 12, 20, 21, 40, 41, 60, 61, 64, 99, 100, 101, 499, 500, 501,
         999, 1000, 1001, 9999, 10000, 99998, 99999, 100000, Integer.MAX_VALUE, Integer.MIN_VALUE,
@@ -21,6 +22,7 @@ public final class ModelTest {
     private final StockPot pot = new StockPot();
     private final PlainPot plain = new PlainPot();
     private final int run;
+    private int asked = 0;
 
     private ModelTest(int run, Method[] calls) {
         this.run = run;
@@ -39,8 +41,37 @@ public final class ModelTest {
         Due.end("ModelTest");
     }
 
+    /** Runs begin by turns as at first, close to the last year, with a full pot and with eight cooks. */
+    private void start() {
+        switch (run % 4) {
+            case 1:
+                for (int n = 0; n < 99; n++) {
+                    both("years", pot.years(100), 100);
+                }
+                break;
+            case 2:
+                both("pour", pot.pour(0, 49999), 0, 49999);
+                both("pour", pot.pour(7, 50000), 7, 50000);
+                break;
+            case 3:
+                for (int n = 0; n < 8; n++) {
+                    int kind = drawn.nextInt(6);
+                    both("cook", pot.cook(kind), kind);
+                }
+                break;
+            default:
+                break;
+        }
+    }
+
+    private void both(String name, long got, long... a) {
+        asked++;
+        Due.is("run " + run + ": " + name + Arrays.toString(a), got, plain.call(name, a));
+    }
+
     private void go() throws Exception {
-        for (int n = 0; n < CALLS; n++) {
+        start();
+        while (asked < CALLS) {
             Method m = calls[drawn.nextInt(calls.length)];
             if (m.getName().equals("college") && drawn.nextInt(4) > 0) {
                 layText(drawn.nextInt(3) == 0 ? strangeText() : fairText());
@@ -50,7 +81,7 @@ public final class ModelTest {
             }
         }
         for (int part = 0; part < 12; part++) {
-            Due.is("run " + run + " at last, grains(" + part + ")", pot.grains(part), plain.call("grains", part));
+            both("grains", pot.grains(part), part);
         }
     }
 
@@ -63,8 +94,7 @@ public final class ModelTest {
                 boxed[i] = (int) a[i];
             }
         }
-        long got = ((Number) m.invoke(pot, boxed)).longValue();
-        Due.is("run " + run + ": " + m.getName() + Arrays.toString(a), got, plain.call(m.getName(), a));
+        both(m.getName(), ((Number) m.invoke(pot, boxed)).longValue(), a);
     }
 
     /** Mostly what the call can take, now and then an edge or anything. */
@@ -128,9 +158,9 @@ public final class ModelTest {
     }
 
     private void layText(String text) throws Exception {
-        Due.is("run " + run + ": wipe", pot.wipe(), plain.call("wipe"));
+        both("wipe", pot.wipe());
         for (int i = 0; i < text.length(); i++) {
-            Due.is("run " + run + ": feed", pot.feed(text.charAt(i), 1), plain.call("feed", text.charAt(i), 1));
+            both("feed", pot.feed(text.charAt(i), 1), text.charAt(i), 1);
         }
     }
 
