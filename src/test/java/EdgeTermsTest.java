@@ -35,6 +35,7 @@ public final class EdgeTermsTest {
         yearNoMoreThanAll();
         onChangesNothing();
         onBehindTheLastYear();
+        onAsInAYearOfTheSameRests();
         sheetsAtFirst();
         Due.end("EdgeTermsTest");
     }
@@ -529,6 +530,42 @@ public final class EdgeTermsTest {
         Due.is("cook 0 in 10000", x.on(1, 2, 0), 1);
         Due.is("both by turns", x.on(1, 100, 0), 50);
         Due.is("the year stays", x.now(0), 9999);
+    }
+
+    private static StockPot threeCooksIn(int year) {
+        StockPot x = Due.inYear(Due.potOf(700, 90, 0, 40, 0, 0, 8), year);
+        Due.addCook(x, 4, 8, 120, 9);
+        Due.addCook(x, 5, 6, 10, 2);
+        Due.addCook(x, 3, 1, 60, 5);
+        x.sheet(0, 16, 40);
+        return x;
+    }
+
+    /** 9999 and 24 have the same rest by 3, by 5 and by 7, so three cooks go on alike from both. */
+    private static void onAsInAYearOfTheSameRests() {
+        Due.sentence("ON: n YEARS go on with all as it is (in the last YEAR, every question)");
+        StockPot last = threeCooksIn(9999);
+        StockPot early = threeCooksIn(24);
+        for (int part = 0; part < 12; part++) {
+            Due.is("on(" + part + ", 100, 0)", last.on(part, 100, 0), early.on(part, 100, 0));
+            Due.is("on(" + part + ", 100, 1)", last.on(part, 100, 1), early.on(part, 100, 1));
+            Due.is("gone(" + part + ", 9)", last.gone(part, 9), early.gone(part, 9));
+            Due.is("strong(" + part + ", 50)", last.strong(part, 50), early.strong(part, 50));
+            Due.is("better(" + part + ", 60)", last.better(part, 60), early.better(part, 60));
+            Due.is("weight(0, " + part + ", 20, 30)", last.weight(0, part, 20, 30), early.weight(0, part, 20, 30));
+            Due.is("kind(0, " + part + ", 60)", last.kind(0, part, 60), early.kind(0, part, 60));
+        }
+        Due.is("vague()", last.vague(), early.vague());
+        Due.is("puts(0, 60)", last.puts(0, 60), early.puts(0, 60));
+        Due.is("best(100)", last.best(100), early.best(100));
+        Due.is("dull(60)", last.dull(60), early.dull(60));
+        Due.is("book(0, 8)", last.book(0, 8), early.book(0, 8));
+        Due.is("read(0, 8, 0)", last.read(0, 8, 0), early.read(0, 8, 0));
+        for (int i = 0; i < 40; i++) {
+            Due.is("number " + i, last.write(0, i, 0), early.write(0, i, 0));
+        }
+        Due.is("findings", last.status(-1), early.status(-1));
+        Due.is("the last year stays", last.now(0), 9999);
     }
 
     private static void sheetsAtFirst() {
